@@ -78,6 +78,14 @@ public final class AdjustedTest {
         parted(last, 0, 1, 5, 49);
         last.point(1, 0, 0);
         adjusted(last, 0, 1, -5, 0xb, 0x4, 0, -5);
+        parted(last, 0, 1, 0, 1);
+        PointShares close = Check.setUp(2, Check.row(4, 1), Check.row(1, 3));
+        // 4 by 5 is above 3 by 4 by as little as can be
+        adjusted(close, 0, 1, 0, 1, 3, 0, 0);
+        adjusted(close, 1, 0, 0, 3, 1, 0, 0);
+        alike(close, 0, 1, 16, 21);
+        parted(close, 0, 1, 1, 21);
+        parted(close, 1, 0, 1, 21);
     }
 
     private static void none() {

@@ -133,6 +133,17 @@ public final class DivisionTest {
         claim(two, 1, 0, -5, -5);
         two.hold(0, -1);
         claim(two, 1, 2, 10, 1);
+        PointShares three = Check.setUp(3, Check.row(1, 5, 1), Check.row(1, 4, 1), Check.row(1, 0, 9));
+        three.hold(0, 0);
+        three.hold(1, 1);
+        three.hold(2, 2);
+        // 1 has 4 of 9, which is no less than 1 by 3, but 5 of 9 would rather have 0's
+        claim(three, 1, 4, 10, 1);
+        three.point(1, 0, 8);
+        // now it has 4 of 12, just 1 by 3
+        claim(three, 1, 4, 10, 1);
+        three.point(1, 2, 1);
+        claim(three, 1, 3, 2, -5);
     }
 
     private static void better() {

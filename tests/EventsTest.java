@@ -46,6 +46,8 @@ public final class EventsTest {
         Check.promise(29, "after");
         PointShares x = Check.setUp(3, Check.row(9, 9, 50), Check.row(4, 2, 50));
         after(x, 13, 24, 0);
+        Check.due("after(3)", x.after(3), Check.NO);
+        Check.due("after(-1)", x.after(-1), Check.NO);
         x.event(0, 1);
         // 0 has 9 of 9, 1 has 2 of 11
         after(x, 11, 20, 0);

@@ -28,6 +28,12 @@ public final class SetUpTest {
             Check.due("item", x.item(tape, 0, 1), -11);
         }
         Check.due("undo()", x.undo(), -3);
+        Check.due("thing()", x.thing(), 0);
+        x.point(0, 0, 7);
+        x.hold(0, 0);
+        Check.fraction("held(0, 0)", x.held(0, 0, 0), x.held(0, 0, 1), 1, 1);
+        Check.fraction("share(0, 0)", x.share(0, 0, 0), x.share(0, 0, 1), 1, 1);
+        Check.due("claim(0, 0)", x.claim(0, 0), 0);
         Check.due("NO", PointShares.NO, Long.MIN_VALUE);
         Check.due("NONE", PointShares.NONE, -1);
         Check.due("BAD", PointShares.BAD, -2);
@@ -241,6 +247,11 @@ public final class SetUpTest {
         x.feed(0);
         Check.due("read() of n and the sign 0", x.read(), -11);
         Check.due("told(1): nothing was done", x.told(1), 0);
+        PointShares y = Check.setUp(2, Check.row(1, 1));
+        Check.read(y, "x01", -10);
+        Check.read(y, "h01;p0000;s01;", -24);
+        Check.due("holder(0, 0): nothing was done", y.holder(0, 0), -5);
+        Check.due("of(0, 0): nothing was done", y.of(0, 0), 1);
     }
 
     private static void readClauses() {

@@ -175,11 +175,13 @@ public final class TapesTest {
             Check.due("tape(5, sort, 60)", x.tape(5, sort, 60), 1);
             Check.due("item(5, 59, 1)", x.item(5, 59, 1), 1);
             Check.due("item(5, 60, 1)", x.item(5, 60, 1), -13);
+            Check.due("item(5, 0, 1)", x.item(5, 0, 1), 1);
             Check.due("tape(5, sort, 61): as it was", x.tape(5, sort, 61), -2);
             Check.due("tape(5, sort, -1): as it was", x.tape(5, sort, -1), -14);
             Check.due("peek(5, 59)", x.peek(5, 59), 1);
             Check.due("tape(5, sort, 60): all 0", x.tape(5, sort, 60), 1);
             Check.due("peek(5, 59)", x.peek(5, 59), 0);
+            Check.due("peek(5, 0)", x.peek(5, 0), 0);
         }
         Check.due("tape(5, 0, 0)", x.tape(5, 0, 0), 1);
         Check.due("item(5, 0, 1): no place", x.item(5, 0, 1), -13);
