@@ -24,6 +24,10 @@ final class Check {
         }
     }
 
+    static int wrong() {
+        return wrong;
+    }
+
     /** Fails if no answer was looked at, too. */
     static void end(String test) {
         System.out.println(test + ": " + asked + " answers, " + wrong + " wrong");
