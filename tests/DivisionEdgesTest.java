@@ -190,6 +190,12 @@ public final class DivisionEdgesTest {
             things 0,0,30,60 0,0,40,40 0,0,30,0
             hold(0, 2) = -5 | hold(1, 3) = -5 | hold(2, 0) = -5
             claim(2) = 4 13 2 -5 | claim(3) = 4 12 1 -5""");
+        Runs.run(14, "4: the least such: 0, though others are as great or greater", """
+            parties(4) = 2
+            things 2,30,0,0 2,25,0,0 2,45,9,9 9,0,0,0
+            hold(0, 0) = -5 | hold(1, 1) = -5 | hold(2, 2) = -5 | hold(3, 3) = -5
+            claim(1) = 4 10 1 -5 | hold(0, 3) = 0 | claim(1) = 4 12 4 -5 | hold(2, 3) = 2 | claim(1) = 4 13 13 -5
+            hold(0, 0) = 3 | hold(2, 0) = 3 | claim(1) = 4 10 5 -5""");
         Runs.run(14, "4: BITS of a PART", """
             parties(3) = 2
             things 40,1,1 60,1,1
@@ -243,6 +249,16 @@ public final class DivisionEdgesTest {
         Runs.run(15, "of the last two THINGS", """
             things 0,0 0,0 0,0 0,0 9,1 1,9
             hold(5, 0) = -5 | hold(4, 1) = -5 | better(0, 1) = 54 | better(1, 0) = 45""");
+        Runs.run(15, "-5: none of 6 THINGS", """
+            things 1,1 2,2 3,3 4,4 5,5 6,6
+            hold(0, 0) = -5 | hold(1, 1) = -5 | hold(2, 0) = -5 | hold(3, 1) = -5 | hold(4, 0) = -5 | hold(5, 1) = -5
+            better(0, 1) = -5 | better(1, 0) = -5""");
+        Runs.run(15, "THINGS that were there ahead of parties are none", """
+            things 9,1 1,9
+            hold(0, 0) = -5 | hold(1, 1) = -5 | better(0, 1) = -5 | parties(2) = 2
+            things 1,99
+            hold(0, 0) = -5 | better(1, 0) = -5 | better(0, 1) = -5 | looked() = -5 | told(4) = 2 | claim(1) = 3 0 -5
+            thing() = 1 | better(1, 0) = -5""");
         Runs.run(15, "of the last two PARTIES", """
             parties(4) = 2
             things 9,9,1,9 1,1,9,1

@@ -23,6 +23,7 @@ public final class LanguageTest {
         members(face);
         nested();
         words();
+        library();
         methods();
         interfaceHeadings();
         Check.end("LanguageTest");
@@ -138,6 +139,25 @@ public final class LanguageTest {
         must("no line has a tab or is longer than 120",
             Files.readAllLines(SOURCE).stream().allMatch(l -> l.length() <= 120 && l.indexOf('\t') < 0));
         must("'new' stands only where fields begin and in constructors", newOutsideOfFields(code) == 0);
+    }
+
+    /** Rule 4: of the library only the static functions that it lists. */
+    private static void library() throws Exception {
+        Check.about("the library");
+        Pattern listed = Pattern.compile("System\\.arraycopy|Arrays\\.(copyOf|copyOfRange|fill)|List\\.of"
+            + "|(Integer|Long|Math)\\.(?!\\w*Exact|random|parse|valueOf|toString|decode)\\w+");
+        Set<String> own = new TreeSet<>(List.of("PointShares"));
+        for (Class<?> c : PointShares.class.getDeclaredClasses()) {
+            own.add(c.getSimpleName());
+        }
+        int seen = 0;
+        Matcher m = Pattern.compile("\\b([A-Z]\\w*)\\.(\\w+)\\(").matcher(code());
+        while (m.find()) {
+            seen++;
+            String call = m.group(1) + "." + m.group(2);
+            must(call + " is listed", own.contains(m.group(1)) || listed.matcher(call).matches());
+        }
+        must("calls of the library were seen", seen > 0);
     }
 
     /** Calls make no objects: 'new' stands behind '=' of a field, or in a constructor. */

@@ -1,10 +1,7 @@
-import java.lang.reflect.Method;
 import java.util.ArrayList;
 import java.util.Arrays;
-import java.util.HashMap;
 import java.util.HashSet;
 import java.util.List;
-import java.util.Map;
 import java.util.Set;
 
 /**
@@ -19,17 +16,10 @@ import java.util.Set;
 final class Runs {
     /** An object is used for so many calls: what it answers behind them is free. */
     private static final int MOST_CALLS = 512;
-    private static final Map<String, Method> METHODS = new HashMap<>();
     private static final Set<String> CHANGING = Set.of("parties", "thing", "point", "hold", "split", "settle", "feed",
         "read", "see", "event", "book", "image", "undo", "tape", "item", "shift");
     private static final Set<String> BEYOND_PARTIES = Set.of("feed", "read", "image", "undo", "tape", "item", "shift");
     private static final Set<Long> REFUSALS = Set.of(-1L, -2L, -3L, -4L, -11L, -12L, -13L, -14L);
-
-    static {
-        for (Method m : PointShares.class.getDeclaredMethods()) {
-            METHODS.put(m.getName(), m);
-        }
-    }
 
     /** A call and the answer that is due. */
     record Step(String name, Object[] arguments, long want) {
@@ -198,12 +188,8 @@ final class Runs {
         }
     }
 
-    static long answer(PointShares x, Step s) {
-        try {
-            return ((Number) METHODS.get(s.name).invoke(x, s.arguments)).longValue();
-        } catch (ReflectiveOperationException e) {
-            throw new IllegalStateException(s.text(), e);
-        }
+    private static long answer(PointShares x, Step s) {
+        return Calls.answer(x, s.name, s.arguments);
     }
 
     /** Ahead of each call that changes something, and at the end: as an object that was never asked or refused. */
@@ -219,7 +205,8 @@ final class Runs {
                         answer(unasked, s);
                     }
                 }
-                Twins.areAlike("up to " + steps.get(end - 1).text(), asked, unasked);
+                int calls = end + Twins.areAlike("up to " + steps.get(end - 1).text(), asked, unasked);
+                Check.due("no run is too long", calls <= MOST_CALLS ? 1 : 0, 1);
             }
         }
     }
@@ -283,7 +270,7 @@ final class Runs {
     }
 
     private static Step step(String name, List<String> arguments, long want) {
-        Class<?>[] types = METHODS.get(name).getParameterTypes();
+        Class<?>[] types = Calls.types(name);
         if (types.length != arguments.size()) {
             throw new IllegalArgumentException(name + arguments);
         }

@@ -394,6 +394,10 @@ public final class SetUpEdgesTest {
             + read("t;t;t;", -16) + "told(1) = 0\n" + read("t", 1) + "told(1) = 1");
         Runs.run(10, "the FAULT is of the first byte with which none begins so, also if more are off",
             read("x;y;z", -10) + read("t;h0x;h", -14) + read("t t t", -11));
+        Runs.run(10, "by a FAULT at the first place nothing is done", "things 1,1\n" + read("x01", -10) + read("S01", -10)
+            + read(";01", -10) + "holder(0) = -5 -5 | told(1) = 1");
+        Runs.run(10, "by a FAULT at the last place nothing is done", "things 1,1\n" + read("s01;", -14) + read("h00;x", -14)
+            + read("h000", -13) + "holder(0) = -5 -5 | told(1) = 1");
         Runs.run(10, "by a FAULT what was there stays", """
             things 5,6
             hold(0, 1) = -5
