@@ -168,6 +168,12 @@ public final class AdjustedEdgesTest {
         Runs.run(20, "0 by 1: none is SPLIT", """
             things 6,4 4,6
             parted(0, 1) = 0/1 | parted(1, 0) = 0/1 | alike(0, 1) = 3/5""");
+        Runs.run(20, "0 by 1: none is SPLIT, behind a THING that was", """
+            parties(3) = 2
+            things 7,4,5 4,6,5
+            parted(0, 1) = 2/57 | parted(2, 0) = 3/25 | point(0, 0, 6) = 7 | parted(0, 1) = 0/1 | parted(1, 0) = 0/1
+            parted(1, 2) = 1/11 | parted(0, 1) = 0/1 | alike(0, 1) = 3/5 | settle(0, 2) = 0 | parted(0, 1) = 0/1
+            fits(0, 0, 0) = 21 | parted(0, 1) = 0/1 | odds(0) = 2/5 | parted(0, 1) = 0/1""");
     }
 
     private static void asked() {
